@@ -487,15 +487,15 @@ public final class DifferenceMill {
       first[at] = a;
       second[at] = b;
       third[at] = c;
-      made[at] = self | at(made, a) | at(made, b) | at(made, c);
-      near[at] = self | at(near, a);
-      free[at] = at(free, a);
+      made[at] = self | ofPart(made, a) | ofPart(made, b) | ofPart(made, c);
+      near[at] = self | ofPart(near, a);
+      free[at] = ofPart(free, a);
       if (kind == RECURSION) {
-        free[at] |= at(free, c) & ~(1 << b);
+        free[at] |= ofPart(free, c) & ~(1 << b);
         loops |= free[at] == 0 ? 0 : self;
       } else {
-        near[at] |= at(near, b);
-        free[at] |= at(free, b);
+        near[at] |= ofPart(near, b);
+        free[at] |= ofPart(free, b);
       }
       if (kind == VARIABLE) {
         free[at] = self;
@@ -513,7 +513,7 @@ public final class DifferenceMill {
       return at;
     }
 
-    private static int at(int[] sets, int view) {
+    private static int ofPart(int[] sets, int view) {
       return view < 0 ? 0 : sets[view];
     }
   }
