@@ -1,22 +1,12 @@
 /** Plans that nest many recursions, joins of many pairs, and what a long run makes. */
-public final class DeepTest {
-  private static int wrong = 0;
-
-  private static void eq(String what, Object got, Object due) {
-    if (!due.equals(got)) {
-      wrong++;
-      System.out.println(what + ": answered " + got + ", due is " + due);
-    }
-  }
-
+public final class DeepTest extends Checks {
   public static void main(String[] args) {
     nestedClosures();
     nestedFlips();
     pairsThatCancel();
     tooManyPairs();
     longRun();
-    System.out.println(wrong == 0 ? "deep plans are as due" : wrong + " answers are wrong");
-    System.exit(wrong == 0 ? 0 : 1);
+    end("deep plans are as due");
   }
 
   /* A closure of a closure is the same: 16 of them, one inside of another. */

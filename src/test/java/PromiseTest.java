@@ -1,77 +1,5 @@
-import java.util.NoSuchElementException;
-
 /** At least one check for each promise: ordinary calls, edges that the document names, wrong calls. */
-public final class PromiseTest {
-  private static int wrong = 0;
-  private static final int MIN = Integer.MIN_VALUE;
-  private static final int MAX = Integer.MAX_VALUE;
-
-  private interface Call {
-    Object answer();
-  }
-
-  private static void eq(String what, Object got, Object due) {
-    if (!due.equals(got)) {
-      wrong++;
-      System.out.println(what + ": answered " + got + ", due is " + due);
-    }
-  }
-
-  private static void fails(String what, Class<?> due, Call call) {
-    Object got;
-    try {
-      got = call.answer();
-    } catch (RuntimeException e) {
-      got = e.getClass();
-    }
-    eq(what, got, due);
-  }
-
-  private static final Class<?> BOUNDS = IndexOutOfBoundsException.class;
-  private static final Class<?> ARGUMENT = IllegalArgumentException.class;
-  private static final Class<?> STATE = IllegalStateException.class;
-  private static final Class<?> UNSUPPORTED = UnsupportedOperationException.class;
-  private static final Class<?> NO_ELEMENT = NoSuchElementException.class;
-
-  /** The rows of a view at the time 9, 9: key, value and weight of each. */
-  private static String last(DifferenceMill m, int view) {
-    return kept(m, m.rows(view, 9, 9), false);
-  }
-
-  private static String diffs(DifferenceMill m, int view) {
-    return kept(m, m.differences(view), true);
-  }
-
-  private static String kept(DifferenceMill m, int count, boolean times) {
-    StringBuilder text = new StringBuilder();
-    for (int i = 0; i < count; i++) {
-      text.append(i == 0 ? "" : " ").append(m.keyAt(i)).append(',').append(m.valueAt(i));
-      text.append(':').append(m.weightAt(i));
-      text.append(times ? "@" + m.timeAt(i) : "");
-    }
-    return text.toString();
-  }
-
-  /** A mill with one input and changes key, value, weight, a, b. */
-  private static DifferenceMill mill(int... changes) {
-    DifferenceMill m = new DifferenceMill();
-    m.input();
-    for (int i = 0; i + 4 < changes.length; i += 5) {
-      m.change(0, changes[i], changes[i + 1], changes[i + 2], changes[i + 3], changes[i + 4]);
-    }
-    return m;
-  }
-
-  private static DifferenceMill full() {
-    DifferenceMill m = new DifferenceMill();
-    m.input();
-    m.variable();
-    while (m.views() < 20) {
-      m.input();
-    }
-    return m;
-  }
-
+public final class PromiseTest extends Checks {
   public static void main(String[] args) {
     newObject();
     fullPlan();
@@ -98,8 +26,17 @@ public final class PromiseTest {
     finals();
     figures();
     soundness();
-    System.out.println(wrong == 0 ? "all promises hold" : wrong + " checks are wrong");
-    System.exit(wrong == 0 ? 0 : 1);
+    end("all promises hold");
+  }
+
+  private static DifferenceMill full() {
+    DifferenceMill m = new DifferenceMill();
+    m.input();
+    m.variable();
+    while (m.views() < 20) {
+      m.input();
+    }
+    return m;
   }
 
   private static void newObject() {
@@ -112,7 +49,7 @@ public final class PromiseTest {
     eq("1 isSound", m.isSound(), true);
     fails("1 keyAt", BOUNDS, () -> m.keyAt(0));
     fails("1 explained", BOUNDS, () -> m.explained(0));
-    fails("1 meanWeight", ArithmeticException.class, m::meanWeight);
+    fails("1 meanWeight", ARITHMETIC, m::meanWeight);
     fails("1 rows", BOUNDS, () -> m.rows(0, 0, 0));
   }
 
@@ -567,7 +504,7 @@ public final class PromiseTest {
     eq("32 does not wrap", big.meanWeight(), (double) MAX);
     big.variable();
     big.rows(1, 0, 0);
-    fails("32 none", ArithmeticException.class, big::meanWeight);
+    fails("32 none", ARITHMETIC, big::meanWeight);
   }
 
   private static void soundness() {
