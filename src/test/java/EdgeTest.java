@@ -27,9 +27,11 @@ public final class EdgeTest extends Checks {
     filterEdges();
     groupEdges();
     medianEdges();
+    gridEdges();
     joinEdges();
     distinctEdges();
     recursionEdges();
+    variableEdges();
     explainEdges();
     explainTimes();
     errorEdges();
@@ -423,6 +425,62 @@ public final class EdgeTest extends Checks {
     eq("8 m 1 1 2 3 4 4 4", at(often, median, 3, 0), "0,3:1");
   }
 
+  /**
+   * Rows at ten times that are all apart, with all numbers of times: each of the 100 times has its
+   * own. At a, b these are the values from 9 - b to a, if any.
+   */
+  private static void gridEdges() {
+    for (char kind : GROUPS.toCharArray()) {
+      DifferenceMill m = mill();
+      int view = m.group(0, kind, 3);
+      for (int i = 0; i < 10; i++) {
+        m.change(0, 7, i, 1, i, 9 - i);
+      }
+      for (int time = 0; time < 100; time++) {
+        int first = 9 - time % 10;
+        int last = time / 10;
+        String what = "8 " + kind + " at " + time;
+        eq(what, at(m, view, time / 10, time % 10), first > last ? "" : grouped(kind, first, last));
+      }
+      eq("33 " + kind, m.isSound(), true);
+    }
+    DifferenceMill m = mill();
+    int ones = m.distinct(0);
+    for (int i = 0; i < 10; i++) {
+      m.change(0, 7, 7, 1, i, 9 - i);
+    }
+    StringBuilder due = new StringBuilder("7,7:1@9");
+    for (int i = 1; i < 10; i++) {
+      due.append(" 7,7:1@").append(9 + 9 * i).append(" 7,7:-1@").append(10 + 9 * i);
+    }
+    eq("9 at ten times", diffs(m, ones), due.toString());
+    DifferenceMill many = mill();
+    int best = many.group(0, 't', 9);
+    for (int i = 0; i < 16; i++) {
+      many.change(0, 0, i, 1, i % 10, 9 - i % 10);
+    }
+    eq("8 t of 16 rows", many.rows(best, 9, 9), 9);
+    eq("8 t the least of them", many.valueAt(0), 7);
+    eq("8 t beside", at(many, best, 5, 6), "0,3:1 0,4:1 0,5:1 0,13:1 0,14:1 0,15:1");
+  }
+
+  private static String grouped(char kind, int first, int last) {
+    int count = last - first + 1;
+    switch (kind) {
+      case 'c': return "7," + count + ":1";
+      case 's': return "7," + (first + last) * count / 2 + ":1";
+      case 'l': return "7," + first + ":1";
+      case 'g': return "7," + last + ":1";
+      case 'm': return "7," + (first + last) / 2 + ":1";
+      default:
+        StringBuilder rows = new StringBuilder();
+        for (int i = Math.max(first, last - 2); i <= last; i++) {
+          rows.append(rows.length() == 0 ? "" : " ").append("7,").append(i).append(":1");
+        }
+        return rows.toString();
+    }
+  }
+
   private static void joinEdges() {
     DifferenceMill m = mill(1, 10, 2, 0, 0, 1, 20, -3, 0, 0, 2, 30, 1, 0, 0);
     int other = m.input();
@@ -470,6 +528,33 @@ public final class EdgeTest extends Checks {
     int next = swing.map(y, '+', 1);
     int rec = swing.recursion(0, y, swing.sum(next, swing.filter(next, '=', 1)));
     eq("11 by rounds", swing.rows(rec, 9, 9), 31);
+  }
+
+  /** Which variable is which: the first view, one of two, and one that has no part in the base. */
+  private static void variableEdges() {
+    DifferenceMill first = new DifferenceMill();
+    int v = first.variable();
+    int in = first.input();
+    first.change(in, 0, 5, 1, 0, 0);
+    int rec = first.recursion(in, v, first.map(v, '+', 1));
+    eq("11 the first view", first.rows(rec, 9, 9), 31);
+    eq("10 the first view", first.rows(v, 9, 9), 0);
+    DifferenceMill m = mill(0, 0, 1, 0, 0);
+    int none = m.input();
+    int w = m.variable();
+    int x = m.variable();
+    int inner = m.recursion(none, x, w);
+    int outer = m.recursion(0, w, m.map(inner, '+', 1));
+    eq("11 another variable in the body", m.rows(outer, 9, 9), 31);
+    eq("11 that is empty outside", m.rows(inner, 9, 9), 0);
+    int ofBase = m.recursion(w, x, m.map(x, '+', 40));
+    int cut = m.filter(ofBase, '<', 200);
+    eq("11 another variable in the base", last(m, m.recursion(0, w, cut)), "0,0:1 0,40:1 0,80:1 0,120:1 "
+        + "0,160:1");
+    int own = m.recursion(x, x, m.filter(m.map(x, '+', 7), '<', 20));
+    eq("11 its own variable in the base", last(m, own), "");
+    eq("11 its own variable, as around it", last(m, m.recursion(0, x, own)), "0,0:1 0,7:1 0,14:1");
+    eq("11 of the other variable", last(m, m.recursion(0, w, own)), "0,0:1");
   }
 
   private static void explainEdges() {

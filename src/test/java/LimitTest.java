@@ -46,7 +46,7 @@ public final class LimitTest extends Checks {
   }
 
   private interface Kind {
-    /** A view of 300 differences without the extra row, and of 301 with it. */
+    /** A view of 300 differences that is over, or made of one that is, by one more row. */
     int make(Bench b, int extra);
   }
 
@@ -59,6 +59,7 @@ public final class LimitTest extends Checks {
     variables();
     recursions();
     roundsOfRecursions();
+    basesWithBodies();
     bodiesOutside();
     eachKind();
     eachKindInside();
@@ -166,15 +167,23 @@ public final class LimitTest extends Checks {
     eq("24 a join of 1849 pairs, 43 rows", other.m.differences(firsts), 43);
   }
 
-  /* The rows v,0 at the time 0, 2 and v,1 at the time 2, 0, for v from 0 to the count less 1. */
-  private static int twoTimes(Bench b, int count) {
-    int early = b.m.input();
-    int late = b.m.input();
-    b.m.change(early, 0, 0, 1, 0, 2);
-    b.m.change(late, 0, 0, 1, 2, 0);
+  /* An input to join with, of one row with the key 0 at the time: so rows have this time too. */
+  private static int mark(Bench b, int first, int second) {
+    int mark = b.m.input();
+    b.m.change(mark, 0, 0, 1, first, second);
+    return mark;
+  }
+
+  private static int atTwoTimes(Bench b) {
+    int early = b.m.join(b.line, mark(b, 0, 2), 'e');
+    return b.m.sum(early, b.m.join(b.line, mark(b, 2, 0), 'e'));
+  }
+
+  /* The rows v,1 at the time 0, 2 and v,2 at the time 2, 0, for v from 0 to the count less 1. */
+  private static int twoOfEachKey(Bench b, int count) {
     int some = b.first(count);
-    int one = b.m.map(b.m.join(some, early, 'e'), 's', 0);
-    int other = b.m.map(b.m.join(some, late, 'e'), 's', 0);
+    int one = b.m.map(b.m.join(some, mark(b, 0, 2), 'e'), 's', 0);
+    int other = b.m.map(b.m.join(some, mark(b, 2, 0), 'e'), 's', 0);
     return b.m.sum(b.m.map(one, '+', 1), b.m.map(other, '+', 2));
   }
 
@@ -187,22 +196,17 @@ public final class LimitTest extends Checks {
     for (char kind : new char[] {'c', 's', 'l', 'g', 'm', 't'}) {
       int keys = 300 / perKey(kind);
       Bench b = new Bench(keys);
-      int parts = b.withExtra(twoTimes(b, keys));
+      int parts = b.withExtra(twoOfEachKey(b, keys));
       eq("24 parts of a group " + kind, b.m.differences(parts), 2 * keys);
       edge("a group " + kind, b, b.m.group(parts, kind, 1));
     }
     Bench b = new Bench(150);
-    edge("a group of all", b, b.m.group(b.withExtra(twoTimes(b, 150)), 't', 2));
+    edge("a group of all", b, b.m.group(b.withExtra(twoOfEachKey(b, 150)), 't', 2));
     Bench ones = new Bench(300);
     int keyed = ones.m.map(ones.line, 's', 0);
     edge("a group of 300 keys", ones, ones.m.group(ones.withExtra(keyed), 'l', 0));
     Bench d = new Bench(100);
-    int early = d.m.input();
-    int late = d.m.input();
-    tell(d.m, early, 0, 0, 1, 0, 2);
-    tell(d.m, late, 0, 0, 1, 2, 0);
-    int both = d.m.sum(d.m.join(d.line, early, 'e'), d.m.join(d.line, late, 'e'));
-    edge("a distinct view", d, d.m.distinct(d.withExtra(both)));
+    edge("a distinct view", d, d.m.distinct(d.withExtra(atTwoTimes(d))));
   }
 
   /**
@@ -212,11 +216,7 @@ public final class LimitTest extends Checks {
    */
   private static void variables() {
     Bench b = new Bench(99);
-    int early = b.m.input();
-    int late = b.m.input();
-    tell(b.m, early, 0, 0, 1, 0, 2);
-    tell(b.m, late, 0, 0, 1, 2, 0);
-    int rows = b.m.sum(b.m.join(b.line, early, 'e'), b.m.join(b.line, late, 'e'));
+    int rows = atTwoTimes(b);
     tell(b.m, b.extra, 0, -1, 1, 0, 0, 6000, 1, 1, 0, 0, 7000, 1, 1, 0, 0);
     int v = b.m.variable();
     int back = b.m.negative(b.m.join(rows, b.m.filter(v, '<', 0), 'e'));
@@ -270,6 +270,22 @@ public final class LimitTest extends Checks {
     }
   }
 
+  /** What is added before it is distinct is no view: 600 of base and body that come to 300 or less. */
+  private static void basesWithBodies() {
+    Bench b = new Bench(300);
+    int v = b.m.variable();
+    int far = b.m.negative(b.m.map(b.line, '+', 1000));
+    eq("24 a body of less than 0", b.m.differences(b.m.recursion(b.line, v, far)), 300);
+    int back = b.m.negative(b.line);
+    eq("24 a body that takes the base back", b.m.differences(b.m.recursion(b.line, v, back)), 0);
+    int same = b.m.recursion(b.line, v, b.m.map(v, '+', 0));
+    edge("a body of the same rows", b, b.m.recursion(b.withExtra(same), v, b.line));
+    Bench half = new Bench(150);
+    int w = half.m.variable();
+    int upper = half.m.map(half.line, '+', 150);
+    edge("a body of the other half", half, half.m.recursion(half.withExtra(upper), w, half.line));
+  }
+
   private static void bodiesOutside() {
     Bench b = new Bench(300);
     int v = b.m.variable();
@@ -280,6 +296,7 @@ public final class LimitTest extends Checks {
     holds("beside it", b, alone, 300);
   }
 
+  /* Those that have no more than their part are over by their part. */
   private static final Kind[] KINDS = {
     (b, x) -> b.m.sum(b.line, x),
     (b, x) -> b.m.map(b.m.sum(b.line, x), '+', 3),
