@@ -668,9 +668,10 @@ public final class DifferenceMill {
 
     /* Less than 0 if the difference at the index is ahead of the row and time. */
     private int order(int index, long ofRow, int ofTime) {
-      return row[index] == ofRow
-          ? Integer.compare(time[index], ofTime)
-          : Long.compare(row[index], ofRow);
+      if (row[index] != ofRow) {
+        return row[index] < ofRow ? -1 : 1;
+      }
+      return time[index] - ofTime;
     }
 
     /* Becomes both, added; the parts are other objects than this. */
@@ -828,10 +829,16 @@ public final class DifferenceMill {
     private void widen() {
       int room = rows.length * GROWTH;
       long[] wideRows = new long[room];
-      System.arraycopy(rows, 0, wideRows, 0, size);
+      int[] wideTimes = new int[room];
+      int[] wideWeights = new int[room];
+      for (int i = 0; i < size; i++) {
+        wideRows[i] = rows[i];
+        wideTimes[i] = times[i];
+        wideWeights[i] = weights[i];
+      }
       rows = wideRows;
-      times = Arrays.copyOf(times, room);
-      weights = Arrays.copyOf(weights, room);
+      times = wideTimes;
+      weights = wideWeights;
       spots = new int[spots.length * GROWTH];
       start = 1;
     }

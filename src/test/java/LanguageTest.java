@@ -9,6 +9,8 @@ import java.util.HashSet;
 import java.util.List;
 import java.util.Set;
 import java.util.TreeSet;
+import java.util.regex.Matcher;
+import java.util.regex.Pattern;
 
 /** Checks the face of the class and those rules of LANGUAGE.md that can be read off its text. */
 public final class LanguageTest {
@@ -31,6 +33,18 @@ public final class LanguageTest {
     "getMessage", "hashCode", "toString", "protected", "static {", "package ", "HashMap", "...",
     "@", "NaN", "Object "
   };
+
+  /* What rule 4 lists and this class has use for; all else of the library is not there. */
+  private static final Set<String> LIBRARY = Set.of("Math.max", "Math.min", "Math.abs",
+      "Math.floorMod", "Math.floorDiv", "Integer.compare", "Integer.bitCount", "Integer.max",
+      "Integer.min", "Long.compare", "Long.max", "Long.min", "Arrays.copyOf", "Arrays.copyOfRange",
+      "Arrays.fill", "System.arraycopy");
+  private static final Pattern LIBRARY_CALL =
+      Pattern.compile("\\b(Math|Integer|Long|Arrays|System)\\.[a-zA-Z]+");
+
+  private static final Pattern THROWN = Pattern.compile("throw new (IllegalState|IllegalArgument"
+      + "|IndexOutOfBounds|Arithmetic|UnsupportedOperation|NoSuchElement)"
+      + "(Exception)\\(\"[a-z0-9 ]+\"\\);");
 
   public static void main(String[] args) throws IOException {
     face();
@@ -66,6 +80,10 @@ public final class LanguageTest {
       for (Method m : c.getDeclaredMethods()) {
         check(!names.contains(m.getName()), "a public name in " + c + ": " + m.getName());
       }
+    }
+    for (Method m : DifferenceMill.class.getDeclaredMethods()) {
+      boolean hidden = Modifier.isPrivate(m.getModifiers());
+      check(!hidden || !names.contains(m.getName()), "a public name that is private: " + m);
     }
     check(DifferenceMill.class.getDeclaredConstructors().length == 1, "more than one constructor");
     check(Modifier.isFinal(DifferenceMill.class.getModifiers()), "the class is not final");
@@ -114,6 +132,12 @@ public final class LanguageTest {
       for (char c : line.toCharArray()) {
         check(c >= 32 && c < 127, "line " + (i + 1) + " has the sign " + (int) c);
       }
+      Matcher call = LIBRARY_CALL.matcher(comment ? "" : line);
+      while (call.find()) {
+        check(LIBRARY.contains(call.group()), "line " + (i + 1) + " calls " + call.group());
+      }
+      boolean thrown = line.contains("throw ") && !comment;
+      check(!thrown || THROWN.matcher(line.trim()).matches(), "line " + (i + 1) + " throws");
       boolean opens = line.matches(" {2,4}[a-zA-Z].*\\(.*") && !line.trim().endsWith(";")
           && !line.matches(" {2,4}(if|for|while|switch|return|throw) .*");
       start = opens ? i : start;

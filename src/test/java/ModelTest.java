@@ -12,6 +12,11 @@ import java.util.TreeSet;
  * each time from the sums of the changes up to it, with all 30 rounds of each recursion.
  */
 public final class ModelTest {
+  private static final int MOST_CALLS = 512;
+
+  /* There is one pair of long runs for so many others. */
+  private static final int LONG_SHARE = 80;
+
   private static int wrong = 0;
   private static final Map<String, Integer> seen = new TreeMap<>();
 
@@ -20,6 +25,9 @@ public final class ModelTest {
     int first = args.length > 1 ? Integer.parseInt(args[1]) : 1;
     for (int seed = first; seed < first + runs && wrong == 0; seed++) {
       new Run(seed).go();
+    }
+    for (int pair = 0; pair < runs / LONG_SHARE && wrong == 0; pair++) {
+      goOnByTurns(new Run(-first - 2 * pair), new Run(-first - 2 * pair - 1));
     }
     for (String what : new String[] {
         "rows UnsupportedOperationException", "explain 1", "explain 2",
@@ -39,6 +47,16 @@ public final class ModelTest {
     System.exit(wrong == 0 ? 0 : 1);
   }
 
+  /* Two objects are used at once, each for all the calls that it is promised for. */
+  private static void goOnByTurns(Run one, Run other) {
+    one.begin(true);
+    other.begin(true);
+    while (wrong == 0 && (one.hasMore() || other.hasMore())) {
+      one.goOn();
+      other.goOn();
+    }
+  }
+
   /** One random run on a new object and a new model. */
   private static final class Run {
     private final Random random;
@@ -48,6 +66,14 @@ public final class ModelTest {
     private final StringBuilder told = new StringBuilder();
     private final int style;
     private int[] params;
+    private int making;
+    private int changing;
+    private int steps;
+    private int mostSteps;
+
+    /* A counted run has as many calls as are promised, and looks at few of the rows that are kept. */
+    private boolean counted;
+    private int calls;
 
     private static final String[] MAKING = {"input", "map", "map", "map", "filter", "sum", "sum",
         "negative", "join", "join", "join", "group", "group", "distinct", "variable", "recursion",
@@ -67,12 +93,29 @@ public final class ModelTest {
     }
 
     void go() {
-      int making = 3 + random.nextInt(14);
-      int changing = random.nextInt(5) == 0 ? 17 : 2 + random.nextInt(14);
+      begin(false);
+      while (hasMore() && wrong == 0) {
+        goOn();
+      }
+    }
+
+    void begin(boolean isCounted) {
+      counted = isCounted;
+      making = 3 + random.nextInt(14);
+      changing = random.nextInt(5) == 0 ? 17 : 2 + random.nextInt(14);
       int asking = 20 + random.nextInt(60);
+      mostSteps = counted ? MOST_CALLS : making + changing + asking;
       step("input");
       step(random.nextBoolean() ? "variable" : "input");
-      for (int i = 0; i < making + changing + asking && wrong == 0; i++) {
+    }
+
+    boolean hasMore() {
+      return steps < mostSteps && (!counted || calls < MOST_CALLS);
+    }
+
+    void goOn() {
+      if (hasMore()) {
+        int i = steps++;
         step(i < making ? pick(MAKING) : i < making + changing ? pick(CHANGING) : pick(ASKING));
       }
     }
@@ -84,6 +127,7 @@ public final class ModelTest {
       if (call.equals("recursion") && model.nestingOf(params) > 2) {
         return;
       }
+      calls++;
       Object due = answer(call, true);
       Object got = answer(call, false);
       told.append("  ").append(call).append(java.util.Arrays.toString(params))
@@ -100,8 +144,14 @@ public final class ModelTest {
     }
 
     private void compareKept() {
-      for (int i = 0; i < model.kept.size(); i++) {
+      int count = model.kept.size();
+      for (int i = 0; i < count; i++) {
+        boolean looksAt = !counted || i == 0 || i == count - 1 || random.nextInt(count) == 0;
+        if (!looksAt || counted && calls + 4 > MOST_CALLS) {
+          continue;
+        }
         int[] k = model.kept.get(i);
+        calls += 4;
         if (mill.keyAt(i) != k[0] || mill.valueAt(i) != k[1] || mill.weightAt(i) != k[2]
             || mill.timeAt(i) != k[3]) {
           wrong++;

@@ -1,3 +1,5 @@
+import java.util.TreeMap;
+
 /** At least one check for each promise: ordinary calls, edges that the document names, wrong calls. */
 public final class PromiseTest extends Checks {
   public static void main(String[] args) {
@@ -18,6 +20,7 @@ public final class PromiseTest extends Checks {
     forgetting();
     rows();
     differences();
+    differencesAddUp();
     manyDifferences();
     weights();
     errors();
@@ -350,6 +353,55 @@ public final class PromiseTest extends Checks {
     eq("24 found", m.found(), 4L);
     fails("24 no view", BOUNDS, () -> m.differences(1));
     fails("24 no view below", BOUNDS, () -> m.differences(-1));
+  }
+
+  private static DifferenceMill oneOfEach() {
+    DifferenceMill m = mill(1, 2, 1, 0, 1, 2, 1, 2, 1, 0, 1, 2, 1, 2, 2, 1, 2, -2, 3, 1, 2, 3, 1, 1, 2);
+    int other = m.input();
+    tell(m, other, 2, 2, 1, 2, 0, 1, 5, -1, 0, 3);
+    int v = m.variable();
+    m.map(0, 's', 0);
+    m.map(0, 'd', 0);
+    m.filter(0, '=', 2);
+    m.sum(0, other);
+    m.negative(other);
+    m.join(0, other, 'p');
+    for (char kind : new char[] {'c', 's', 'l', 'g', 'm', 't'}) {
+      m.group(0, kind, 1);
+    }
+    m.distinct(0);
+    m.recursion(0, v, m.filter(m.join(v, other, 'l'), '<', 9));
+    return m;
+  }
+
+  /** At each time a view has the sums of its differences up to it, and no other rows. */
+  private static void differencesAddUp() {
+    for (int v = 0; v < oneOfEach().views(); v++) {
+      DifferenceMill m = oneOfEach();
+      int count = m.differences(v);
+      long[] row = new long[count];
+      int[] weight = new int[count];
+      int[] time = new int[count];
+      for (int i = 0; i < count; i++) {
+        row[i] = ((long) m.keyAt(i) << 32) + m.valueAt(i);
+        weight[i] = m.weightAt(i);
+        time[i] = m.timeAt(i);
+        eq("24 other than 0, view " + v, weight[i] != 0, true);
+      }
+      for (int t : new int[] {0, 1, 3, 9, 10, 11, 12, 20, 21, 22, 23, 30, 31, 33, 90, 99}) {
+        TreeMap<Long, Integer> sums = new TreeMap<>();
+        for (int i = 0; i < count; i++) {
+          boolean upTo = time[i] / 10 <= t / 10 && time[i] % 10 <= t % 10;
+          sums.merge(row[i], upTo ? weight[i] : 0, Integer::sum);
+        }
+        sums.values().removeIf(sum -> sum == 0);
+        StringBuilder due = new StringBuilder();
+        sums.forEach((r, sum) -> due.append(due.length() == 0 ? "" : " ")
+            .append((int) ((r - (int) (long) r) >> 32)).append(',').append((int) (long) r)
+            .append(':').append(sum));
+        eq("19 view " + v + " at " + t, at(m, v, t / 10, t % 10), due.toString());
+      }
+    }
   }
 
   /** Views of 300 differences, of 256 that are made of more, and of more than 300. */
